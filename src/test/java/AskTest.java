@@ -122,6 +122,11 @@ public final class AskTest {
         dueRings("and another one of 62 of 2", x, 31, 1, 0, 0, 0, 3, 31);
         x.live(3, false);
         dueRings("62 of 2 alone", x, 31, 1, 0, 0, 0, 2, 31);
+        MaxplusJunction y = netOf(0, 0, 0);
+        y.arc(0, 0, 30, 1, 0);
+        y.arc(1, 2, 60, 2, 0);
+        y.arc(2, 1, 61, 2, 0);
+        dueRings("121 of 4 are more than 30", y, 121, 4, 29, 1, 1, 6, 31);
     }
 
     /** Promise 18: a ring through all departures, of which each arc has a shift of 2. */

@@ -336,6 +336,9 @@ public final class NetTest {
         Check.refused("lines 5", Check.ARGUMENT, x, () -> x.lay(5, 5));
         Check.refused("seed -1", Check.ARGUMENT, x, () -> x.lay(1, -1));
         Check.refused("seed 100", Check.ARGUMENT, x, () -> x.lay(1, 100));
+        MaxplusJunction z = new MaxplusJunction();
+        z.departure(0, 0, 0);
+        Check.refused("one departure", Check.STATE, z, () -> z.lay(1, 5));
         MaxplusJunction y = new MaxplusJunction();
         y.period(7);
         Check.due("lay by a period of 7", 2, y.lay(1, 5));
