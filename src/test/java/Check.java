@@ -22,6 +22,16 @@ final class Check {
         }
     }
 
+    /** The answers of one method to the numbers 0, 1, .. behind the arguments that are the same. */
+    static void dueEach(MaxplusJunction x, String name, Object[] args, int... want) {
+        for (int what = 0; what < want.length; what++) {
+            Object[] all = java.util.Arrays.copyOf(args, args.length + 1);
+            all[args.length] = what;
+            String call = name + java.util.Arrays.toString(all);
+            due(call, String.valueOf(want[what]), Answers.of(x, name, all));
+        }
+    }
+
     /** The call throws just that exception, and the net answers all as it did before. */
     static void refused(String what, String exception, MaxplusJunction net, Call call) {
         long before = net.digest();
@@ -33,6 +43,21 @@ final class Check {
         }
         due(what, exception, got);
         due(what + ", the digest behind it", before, net.digest());
+    }
+
+    /** The call throws just that exception, and behind it all is answered as by a net without that call. */
+    static void refused(String what, String exception, Answers.Maker net, Answers.Call call) {
+        due(what, exception, Answers.of(net.make(), call));
+        unchanged(what, net, call);
+    }
+
+    /** Behind the call all is answered as by a net without that call. */
+    static void unchanged(String what, Answers.Maker net, Answers.Call call) {
+        due(what + ", the first other answer behind it", "", Answers.difference(net, () -> {
+            MaxplusJunction x = net.make();
+            Answers.of(x, call);
+            return x;
+        }));
     }
 
     static void end(String test) {

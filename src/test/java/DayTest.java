@@ -79,30 +79,35 @@ public final class DayTest {
     private static void storm() {
         MaxplusJunction x = new MaxplusJunction();
         Check.due("no departures", 0, x.storm(3, 9));
-        x.lay(3, 8);
-        x.horizon(9);
-        x.delay(0, 0, 400);
-        int count = x.ofLine(0, 0) + x.ofLine(1, 0) + x.ofLine(2, 0);
-        for (int seed = 0; seed < 100; seed += 11) {
-            for (int most = 1; most <= 100; most += 33) {
-                int[] row = {seed};
-                int sum = 0;
-                int got = x.storm(seed, most);
-                for (int turn = 0; turn < 9; turn++) {
-                    for (int departure = 0; departure < count; departure++) {
-                        int want = draw(row) % 8 == 0 ? draw(row) % (most + 1) : 0;
-                        sum += want;
-                        Check.due("storm(" + seed + ", " + most + ")", want, x.at(departure, turn, 3));
-                    }
-                }
-                Check.due("storm(" + seed + ", " + most + ") together", sum, got);
-                Check.due("lateness together", sum, x.day(7));
-            }
-        }
         Check.refused("seed -1", Check.ARGUMENT, x, () -> x.storm(-1, 5));
         Check.refused("seed 100", Check.ARGUMENT, x, () -> x.storm(100, 5));
         Check.refused("most 0", Check.ARGUMENT, x, () -> x.storm(5, 0));
         Check.refused("most 101", Check.ARGUMENT, x, () -> x.storm(5, 101));
+        for (int seed = 0; seed < 100; seed += 11) {
+            for (int most = 1; most <= 100; most += 33) {
+                stormBy(seed, most);
+            }
+        }
+    }
+
+    private static void stormBy(int seed, int most) {
+        MaxplusJunction x = new MaxplusJunction();
+        x.lay(3, 8);
+        x.horizon(9);
+        x.delay(0, 0, 400);
+        int count = x.ofLine(0, 0) + x.ofLine(1, 0) + x.ofLine(2, 0);
+        int[] row = {seed};
+        int sum = 0;
+        int got = x.storm(seed, most);
+        for (int turn = 0; turn < 9; turn++) {
+            for (int departure = 0; departure < count; departure++) {
+                int want = draw(row) % 8 == 0 ? draw(row) % (most + 1) : 0;
+                sum += want;
+                Check.due("storm(" + seed + ", " + most + ")", want, x.at(departure, turn, 3));
+            }
+        }
+        Check.due("storm(" + seed + ", " + most + ") together", sum, got);
+        Check.due("lateness together", sum, x.day(7));
     }
 
     private static int draw(int[] row) {

@@ -12,7 +12,8 @@ import java.util.Random;
  * Arguments: how many runs (120 by themselves), and the seed of the first one (1).
  */
 public final class OracleTest {
-    private static final int CALLS = 300;
+    // An object is used for at most 512 calls.
+    private static final int CALLS = 512;
     private static final List<String> TELLING = List.of("arc", "arc", "arc", "arc", "arc", "arc", "arc", "arc",
             "departure", "riders", "riders", "pair", "live", "delay", "delay", "move");
 
