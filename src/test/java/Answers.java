@@ -26,6 +26,8 @@ final class Answers {
 
     private final List<String> names = new ArrayList<>();
     private final List<Object[]> arguments = new ArrayList<>();
+    // How many of them are good ones in each net, so that none of their answers is an exception.
+    private int goodOnes = 0;
 
     private Answers() {
     }
@@ -60,7 +62,10 @@ final class Answers {
         return methods;
     }
 
-    /** The first question that both nets do not answer alike, with both answers; "" if there is none. */
+    /**
+     * The first question that both nets do not answer alike, or that throws though it is a good one, with
+     * both answers; "" if there is none.
+     */
     static String difference(Maker one, Maker other) {
         Answers all = ofAll(one.make());
         for (int begin = 0; begin < all.names.size(); begin += MOST_QUESTIONS) {
@@ -69,7 +74,7 @@ final class Answers {
             for (int n = begin; n < all.names.size() && n < begin + MOST_QUESTIONS; n++) {
                 String want = of(x, all.names.get(n), all.arguments.get(n));
                 String got = of(y, all.names.get(n), all.arguments.get(n));
-                if (!want.equals(got)) {
+                if (!want.equals(got) || n < all.goodOnes && want.endsWith("Exception")) {
                     return all.names.get(n) + Arrays.toString(all.arguments.get(n)) + " " + want + " and " + got;
                 }
             }
@@ -85,6 +90,7 @@ final class Answers {
         all.ofTheNet(departures, arcs);
         all.ofTheDay(departures, turns);
         all.ofPairsOfDepartures(departures);
+        all.goodOnes = all.names.size();
         all.lastOfAll();
         return all;
     }

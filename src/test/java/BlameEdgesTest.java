@@ -9,6 +9,7 @@ public final class BlameEdgesTest {
         onlyThoseThatComeToJustThat();
         notOfTurnsBelowZero();
         notOfBrokenArcs();
+        notOfArcsToAnotherOne();
         theTurnThatOneComesToAtLast();
         rootThatIsNotLate();
         noRootIfNotLate();
@@ -119,6 +120,17 @@ public final class BlameEdgesTest {
         dueRoot("none", x, 2, 0, Check.NONE, Check.NONE);
         x.live(0, true);
         dueRoot("the other one", x, 2, 0, 0, 0);
+    }
+
+    /** "of the LIVE ARCS" to it: one to another DEPARTURE that comes there at just that minute is none of them. */
+    private static void notOfArcsToAnotherOne() {
+        MaxplusJunction x = Nets.of(0, 0, 40, 30);
+        x.arc(0, 2, 30, 0, Nets.RUN);
+        x.arc(1, 3, 30, 0, Nets.RUN);
+        x.delay(0, 0, 10);
+        x.delay(1, 0, 10);
+        Check.due("40", 40, x.at(3, 0, 1));
+        dueRoot("by its own arc", x, 3, 0, 1, 0);
     }
 
     /** A chain without SLACK that goes on to the TURN but one, the first one of all late. */

@@ -194,6 +194,18 @@ public final class ChoiceEdgesTest {
         dueBest("no pair", x, 0, 0, 0);
         x.live(1, true);
         dueBest("its second one is live", x, 10, 16, 0);
+        MaxplusJunction y = star(4, 100);
+        y.arc(0, 1, 60, 0, Nets.TRACK);
+        y.arc(0, 1, 10, 0, Nets.TRACK);
+        y.pair(4, 5);
+        y.live(4, false);
+        for (int arc = 0; arc < 4; arc++) {
+            y.riders(arc, 1, true);
+        }
+        dueBest("four connections, and no pair", y, 240, 15, 4);
+        Check.due("four change", 4, y.decide());
+        Check.due("none of the pair", 0, y.ofArc(4, 6) + y.ofArc(5, 6));
+        dueBest("four connections are broken, and no pair", y, 240, 15, 0);
     }
 
     /** "LIVE or BROKEN": one that is BROKEN may become LIVE. */

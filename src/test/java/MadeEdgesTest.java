@@ -141,6 +141,10 @@ public final class MadeEdgesTest {
         for (int arc = 0; arc < 4; arc++) {
             Check.due("slack " + arc, slacks[arc], x.ofArc(arc, 7));
         }
+        MaxplusJunction y = Nets.of(1, 2, 3);
+        y.arc(2, 0, 70, 0, Nets.RUN);
+        y.arc(2, 1, 69, 0, Nets.RUN);
+        Check.due("the greatest one is the first one", 70, y.make());
         Check.due("by 59: 31, 34 and 31", 34, x.wouldMake(59));
         Check.due("by 71: 20, 0 and 8", 20, x.wouldMake(71));
     }

@@ -13,7 +13,9 @@ public final class RideEdgesTest {
         brokenAtTheEndOfTheDay();
         brokenOnesOneBehindTheOther();
         leastRealOfTurns();
+        brokenBehindTheLongestDay();
         longestRide();
+        rideThroughAllTurns();
         linesWithoutDepartures();
         linesCauseAndSuffer();
         crewsOfNothing();
@@ -24,6 +26,8 @@ public final class RideEdgesTest {
         crewsByReal();
         crewsBeyondTheDay();
         crewsAreAsFewAsCanBe();
+        crewsGoOnOnceEach();
+        crewsOfTurnsThatBeginOutOfOrder();
         crewsOfAllThatCanBe();
         Check.end("RideEdgesTest");
     }
@@ -168,6 +172,23 @@ public final class RideEdgesTest {
         }
     }
 
+    /** The same by each SHIFT, where H is as great as it can be. */
+    private static void brokenBehindTheLongestDay() {
+        for (int shift = 0; shift < 3; shift++) {
+            MaxplusJunction x = Nets.of(0, 10);
+            x.horizon(12);
+            x.arc(0, 1, 10 + 60 * shift, shift, Nets.CONNECTION);
+            x.live(0, false);
+            for (int turn = 0; turn < 12; turn++) {
+                int next = turn + shift;
+                Check.due("caught at " + next, next < 12 ? 10 + 60 * next : Check.NONE, x.ride(0, turn, 1));
+                x.delay(0, turn, 1);
+                int missed = next + 1;
+                Check.due("missed at " + next, missed < 12 ? 10 + 60 * missed : Check.NONE, x.ride(0, turn, 1));
+            }
+        }
+    }
+
     /** One after the other, each of them missed by a minute. */
     private static void brokenOnesOneBehindTheOther() {
         MaxplusJunction x = Nets.many(6);
@@ -210,6 +231,27 @@ public final class RideEdgesTest {
         Check.due("back at the least one", 0, x.ride(0, 0, 0));
         Check.due("from the last one but two", 60 * 11 + 7, x.ride(0, 10, 13));
         Check.due("from the last one", Check.NONE, x.ride(0, 11, 13));
+    }
+
+    /** The one TURN of the last DEPARTURE that is not late is the last of all that one can come to. */
+    private static void rideThroughAllTurns() {
+        MaxplusJunction x = Nets.chain(14, 1);
+        x.live(0, false);
+        x.arc(12, 0, 1, 1, Nets.RUN);
+        x.arc(12, 13, 1, 0, Nets.RUN);
+        // The same ways once more, so that one comes to each TURN twice.
+        for (int number = 0; number < 13; number++) {
+            x.arc(number, (number + 1) % 13, 1, number == 12 ? 1 : 0, Nets.RUN);
+        }
+        x.period(13);
+        x.horizon(12);
+        Check.due("the first turn", 13, x.ride(0, 0, 13));
+        for (int turn = 0; turn < 11; turn++) {
+            x.delay(13, turn, 500);
+        }
+        Check.due("the last turn", 13 * 11 + 13, x.ride(0, 0, 13));
+        x.delay(13, 11, 500);
+        Check.due("the first turn again", 500, x.ride(0, 0, 13));
     }
 
     /** "3 the greatest LATE of its TURNS (0 without any)", "0 how many DEPARTURES it has" */
@@ -303,6 +345,18 @@ public final class RideEdgesTest {
             x.live(number, false);
             Check.due(number + " of 6 turns", 6 * number, x.crews(0));
         }
+        MaxplusJunction y = Nets.of(0, 30, 50);
+        y.arc(0, 1, 20, 0, Nets.RUN);
+        y.arc(1, 2, 20, 0, Nets.RUN);
+        y.arc(2, 0, 70, 1, Nets.RUN);
+        Check.due("all by one", 1, y.crews(0));
+        y.live(0, false);
+        Check.due("none comes to 1: six go on at 2", 6, y.crews(0));
+        y.live(0, true);
+        y.live(1, false);
+        Check.due("none comes to 2: five go on at 0", 7, y.crews(0));
+        y.live(2, false);
+        Check.due("none leaves 1 and 2: none goes on", 6, y.crews(0));
     }
 
     /** "another one that begins at the DEPARTURE where the first one ended" */
@@ -368,6 +422,57 @@ public final class RideEdgesTest {
         Check.due("50 goes on to 100, and 110 or 120 to 160", 4, y.crews(0));
         Check.due("50 goes on to 100, and 110 to 160", 4, y.crews(50));
         Check.due("50 goes on to 160", 5, y.crews(51));
+    }
+
+    /** "each RUN and TURN worked by one": who has gone on does not go on to another one, too. */
+    private static void crewsGoOnOnceEach() {
+        MaxplusJunction x = Nets.of(0, 100, 200);
+        x.horizon(2);
+        x.arc(0, 1, 50, 0, Nets.RUN);
+        x.arc(1, 2, 50, 0, Nets.RUN);
+        x.delay(0, 1, 500);
+        x.arc(1, 2, 40, 0, Nets.RUN);
+        // At 1 they end at 50 and 610, and begin at 100 and 610, two each time.
+        Check.due("one of two, then one of two", 6 - 2, x.crews(0));
+        Check.due("one of four", 6 - 1, x.crews(1));
+        x.live(1, false);
+        Check.due("one of one, then one of one", 4 - 2, x.crews(0));
+        Check.due("one of one", 4 - 1, x.crews(50));
+        Check.due("one of one, the second one", 4 - 1, x.crews(51));
+        x.live(0, false);
+        x.delay(0, 1, 0);
+        x.arc(0, 1, 20, 2, Nets.RUN);
+        x.delay(1, 1, 300);
+        Check.due("they end at 20 and 80, and begin at 100 and 460", 4 - 2, x.crews(20));
+        Check.due("81 and more is too much for the first", 4 - 1 - 1, x.crews(80));
+        Check.due("so the second one takes one of two", 4 - 1, x.crews(81));
+    }
+
+    /** The sooner one to begin is the sooner one that another one can go on to, whichever TURN it is. */
+    private static void crewsOfTurnsThatBeginOutOfOrder() {
+        MaxplusJunction x = Nets.of(0, 70, 0);
+        x.horizon(3);
+        x.period(60);
+        x.arc(0, 1, 60, 0, Nets.RUN);
+        x.arc(1, 2, 10, 0, Nets.RUN);
+        x.live(0, false);
+        x.arc(0, 1, 60, 2, Nets.RUN);
+        x.delay(1, 0, 230);
+        x.delay(0, 1, 170);
+        x.delay(0, 2, 500);
+        // At 1 they end at 60, 290 and 680, and begin at 300, 130 and 190.
+        Check.due("60 goes on to 130, and 290 to 300", 6 - 2, x.crews(0));
+        Check.due("the same by 10", 6 - 2, x.crews(10));
+        Check.due("60 alone by 11", 6 - 1, x.crews(11));
+        x.delay(1, 1, 500);
+        // Now they begin at 300, 630 and 190.
+        Check.due("60 goes on to 190, and 290 to 300 or 630", 6 - 2, x.crews(0));
+        Check.due("60 goes on to 190, and 290 to 630", 6 - 2, x.crews(100));
+        x.delay(1, 2, 400);
+        // Now they begin at 300, 630 and 590.
+        Check.due("60 goes on to 300, and 290 to 590", 6 - 2, x.crews(100));
+        x.delay(0, 0, 90);
+        Check.due("150 goes on to 300, and 290 to 590", 6 - 2, x.crews(90));
     }
 
     /** 36 RUNS of 12 TURNS. */

@@ -15,6 +15,9 @@ public final class WouldBeEdgesTest {
         healsOnlyLiveArcs();
         healsTheSmallestNumber();
         healsByEachBudget();
+        soundIfLeastPeriodIsPeriod();
+        soundWithTheLeastLateness();
+        soundIfItDoesNotHold();
         soundInAllStates();
         digestOfOneDeparture();
         digestOfAPair();
@@ -236,6 +239,45 @@ public final class WouldBeEdgesTest {
         Check.due("1 of 2 alone", 1, x.heals(1));
     }
 
+    /** "if it HOLDS, LEAST PERIOD is no more than PERIOD": just as much is right. */
+    private static void soundIfLeastPeriodIsPeriod() {
+        for (int period : new int[] {1, 60, 300}) {
+            MaxplusJunction x = Nets.of(0);
+            x.period(period);
+            x.arc(0, 0, period, 1, Nets.RUN);
+            Check.due("it holds", 1, x.rings(4));
+            Check.due("margin", 0, x.rings(2));
+            Check.due("not stable", 0, x.rings(3));
+            Check.due("sound all the same", true, x.isSound());
+        }
+    }
+
+    /** "if the timetable HOLDS and there is no LATENESS, nothing is LATE": of one minute something is. */
+    private static void soundWithTheLeastLateness() {
+        MaxplusJunction x = Nets.of(0, 10);
+        x.arc(0, 1, 10, 0, Nets.RUN);
+        Check.due("no lateness", true, x.isSound());
+        x.delay(1, 5, 1);
+        Check.due("of one minute", true, x.isSound());
+        Check.due("one is late", 1, x.day(3));
+        x.delay(1, 5, 0);
+        x.delay(0, 0, 1);
+        Check.due("of one minute that goes on", true, x.isSound());
+        Check.due("two are late", 2, x.day(3));
+    }
+
+    /** "if the timetable HOLDS ..": what is LATE without LATENESS is right where it does not. */
+    private static void soundIfItDoesNotHold() {
+        MaxplusJunction x = Nets.of(0, 10);
+        x.arc(0, 1, 11, 0, Nets.RUN);
+        Check.due("it does not hold", 0, x.rings(4));
+        Check.due("all of 1 are late", 6, x.day(3));
+        Check.due("sound", true, x.isSound());
+        x.arc(1, 0, 300, 1, Nets.RUN);
+        Check.due("margin below 0", -251, x.rings(2));
+        Check.due("sound with that, too", true, x.isSound());
+    }
+
     /** "Returns whether all is SOUND": in each state that can be told. */
     private static void soundInAllStates() {
         Check.due("without departures", true, new MaxplusJunction().isSound());
@@ -277,11 +319,13 @@ public final class WouldBeEdgesTest {
         x.horizon(2);
         x.delay(0, 1, 4);
         x.arc(0, 0, 61, 2, Nets.CONNECTION);
+        x.arc(0, 0, 10, 1, Nets.STOCK);
+        // FREE of the TURNS 0 to 6 is 0, 10, 61, 71, 122, 132, 183.
         long want = digestOf(60,
                 61, 2, 29, 1, 1, 1, 31,
                 12, 4, 2, 1, 4, 2, 0, 4,
-                2, 7, 3, 1, 1, 1, 4, 4, 122, 0, 7, -1, -1, 71, 0, 1,
-                1, 59, -1,
+                2, 7, 3, 2, 2, 1, 4, 4, 132, 0, 7, -1, -1, 71, 0, 1,
+                1, 59, -1, 1, 50, -1,
                 0, 0, 0, 0, 0, 0, 0, 0, 1, 4, 4, 4, 0, 0, 0, 0, 0, 0, 0, 0, 0, 0, 0, 0,
                 1);
         Check.due("of one departure", want, x.digest());
