@@ -16,14 +16,6 @@ public final class AskTest {
         Check.end("AskTest");
     }
 
-    private static MaxplusJunction netOf(int... offsets) {
-        MaxplusJunction x = new MaxplusJunction();
-        for (int offset : offsets) {
-            x.departure(0, offset, 1);
-        }
-        return x;
-    }
-
     /** Promise 16. */
     private static void ofDeparture() {
         MaxplusJunction x = new MaxplusJunction();
@@ -52,7 +44,7 @@ public final class AskTest {
 
     /** Promise 16: MINUTES go to the ROOT, LATE stays where it is. */
     private static void minutes() {
-        MaxplusJunction x = netOf(0, 10, 20);
+        MaxplusJunction x = Nets.of(0, 10, 20);
         x.arc(0, 1, 10, 0, 0);
         x.arc(1, 2, 8, 0, 0);
         x.horizon(2);
@@ -68,7 +60,7 @@ public final class AskTest {
 
     /** Promise 17; NetTest asks the rest of it. */
     private static void ofArc() {
-        MaxplusJunction x = netOf(10, 50);
+        MaxplusJunction x = Nets.of(10, 50);
         x.arc(1, 0, 25, 2, 2);
         x.arc(0, 1, 41, 0, 1);
         x.riders(0, 12, true);
@@ -96,7 +88,7 @@ public final class AskTest {
 
     /** Promise 18 without rings. */
     private static void ringsOfNone() {
-        MaxplusJunction x = netOf(0, 30);
+        MaxplusJunction x = Nets.of(0, 30);
         dueRings("no arcs", x, 0, 1, 60, 1, 1, 0, 0);
         x.arc(0, 1, 31, 0, 0);
         dueRings("no ring", x, 0, 1, 60, 1, 0, 0, 0);
@@ -106,7 +98,7 @@ public final class AskTest {
 
     /** Promise 18: fractions, shortened, and what is rounded. */
     private static void ringsOfFractions() {
-        MaxplusJunction x = netOf(0, 0);
+        MaxplusJunction x = Nets.of(0, 0);
         x.arc(0, 1, 35, 2, 0);
         x.arc(1, 0, 85, 2, 0);
         dueRings("120 of 4 are 30", x, 30, 1, 30, 1, 1, 3, 30);
@@ -122,7 +114,7 @@ public final class AskTest {
         dueRings("and another one of 62 of 2", x, 31, 1, 0, 0, 0, 3, 31);
         x.live(3, false);
         dueRings("62 of 2 alone", x, 31, 1, 0, 0, 0, 2, 31);
-        MaxplusJunction y = netOf(0, 0, 0);
+        MaxplusJunction y = Nets.of(0, 0, 0);
         y.arc(0, 0, 30, 1, 0);
         y.arc(1, 2, 60, 2, 0);
         y.arc(2, 1, 61, 2, 0);
@@ -131,7 +123,7 @@ public final class AskTest {
 
     /** Promise 18: a ring through all departures, of which each arc has a shift of 2. */
     private static void ringsOfMany() {
-        MaxplusJunction x = netOf(0, 0, 0, 0, 0, 0, 0, 0, 0, 0, 0, 0, 0, 0);
+        MaxplusJunction x = Nets.of(0, 0, 0, 0, 0, 0, 0, 0, 0, 0, 0, 0, 0, 0);
         for (int number = 0; number < 14; number++) {
             x.arc(number, (number + 5) % 14, number == 3 ? 299 : 300, 2, number % 4);
         }
@@ -144,7 +136,7 @@ public final class AskTest {
 
     /** Promise 18: a departure on a way between rings is not critical; rings that meet are one by one. */
     private static void ringsThatMeet() {
-        MaxplusJunction x = netOf(0, 0, 0, 0, 0);
+        MaxplusJunction x = Nets.of(0, 0, 0, 0, 0);
         x.arc(0, 1, 20, 0, 0);
         x.arc(1, 0, 20, 1, 0);
         x.arc(1, 2, 300, 1, 0);
@@ -167,7 +159,7 @@ public final class AskTest {
 
     /** Promise 18: the timetable HOLDS by its live arcs alone. */
     private static void holds() {
-        MaxplusJunction x = netOf(0, 30);
+        MaxplusJunction x = Nets.of(0, 30);
         x.arc(0, 1, 30, 0, 0);
         Check.due("slack 0", 1, x.rings(4));
         x.arc(1, 0, 31, 1, 0);
@@ -183,7 +175,7 @@ public final class AskTest {
 
     /** Promise 19. */
     private static void healing() {
-        MaxplusJunction x = netOf(0, 20, 40, 50, 0);
+        MaxplusJunction x = Nets.of(0, 20, 40, 50, 0);
         x.arc(0, 1, 15, 0, 0);
         x.arc(1, 2, 17, 0, 0);
         x.arc(0, 2, 30, 0, 0);
@@ -210,7 +202,7 @@ public final class AskTest {
 
     /** Promise 20. */
     private static void feels() {
-        MaxplusJunction x = netOf(0, 20, 45, 0);
+        MaxplusJunction x = Nets.of(0, 20, 45, 0);
         x.arc(0, 1, 15, 0, 0);
         x.arc(1, 2, 22, 0, 0);
         Check.due("one minute", 1, x.feels(0, 1));
@@ -231,7 +223,7 @@ public final class AskTest {
 
     /** Promise 21. */
     private static void free() {
-        MaxplusJunction x = netOf(500, 600, 700);
+        MaxplusJunction x = Nets.of(500, 600, 700);
         x.arc(0, 1, 10, 0, 0);
         x.arc(1, 0, 20, 2, 0);
         x.arc(1, 2, 5, 1, 0);
@@ -254,7 +246,7 @@ public final class AskTest {
 
     /** Promise 22. */
     private static void power() {
-        MaxplusJunction x = netOf(0, 0, 0);
+        MaxplusJunction x = Nets.of(0, 0, 0);
         x.arc(0, 1, 10, 0, 0);
         x.arc(1, 0, 20, 1, 1);
         x.arc(0, 1, 11, 2, 2);

@@ -1,4 +1,7 @@
-/** The edges that the document names of BLAME, COST and what a day answers (section 3, promises 23 to 25), a sentence each. */
+/**
+ * The edges that the document names of BLAME, COST and what a day answers (section 3, promises 16 and
+ * 23 to 25), a sentence each.
+ */
 public final class BlameEdgesTest {
     private static final Object[] NOTHING = {};
 
@@ -297,7 +300,7 @@ public final class BlameEdgesTest {
         }
     }
 
-    /** "the first TURN from which on nothing is LATE (H, if something is LATE in the last one)" */
+    /** "the first TURN from which on nothing is LATE (H, if something is LATE in the last one ..)" */
     private static void settlesBehindEachTurn() {
         for (int turns = 1; turns <= 12; turns++) {
             for (int turn = 0; turn < turns; turn++) {
@@ -365,7 +368,7 @@ public final class BlameEdgesTest {
         Check.due("all", 36, x.day(6));
     }
 
-    /** board(): "with ' ' between", of one TURN there is none. */
+    /** A blank stands between the TURNS of a board; of one TURN there is none. */
     private static void boardOfOneTurn() {
         MaxplusJunction x = Nets.of(999);
         x.horizon(1);

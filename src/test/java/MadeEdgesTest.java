@@ -76,16 +76,13 @@ public final class MadeEdgesTest {
         };
         dueMade("101 and 20 of 2 by 60", Check.NONE, longer, 60);
         dueMade("101 and 20 of 2 by 61", 101, longer, 61);
-        dueMade("one alone, 300 of 2 by 150", 0, () -> {
+        Answers.Maker alone = () -> {
             MaxplusJunction x = Nets.of(7);
             x.arc(0, 0, 300, 2, Nets.RUN);
             return x;
-        }, 150);
-        dueMade("one alone, 300 of 2 by 149", Check.NONE, () -> {
-            MaxplusJunction x = Nets.of(7);
-            x.arc(0, 0, 300, 2, Nets.RUN);
-            return x;
-        }, 149);
+        };
+        dueMade("one alone, 300 of 2 by 149", Check.NONE, alone, 149);
+        dueMade("one alone, 300 of 2 by 150", 0, alone, 150);
     }
 
     /** "and all these OFFSETS are 999 or less" */

@@ -7,6 +7,7 @@ public final class NetEdgesTest {
         newObject();
         periodAtFirst();
         periodsLeastAndGreatest();
+        planOfEachTurn();
         fourteenDepartures();
         linesLeastAndGreatest();
         weightsLeastAndGreatest();
@@ -67,6 +68,21 @@ public final class NetEdgesTest {
         Check.due("plan of turn 11 by 500", 6499, x.at(0, 11, 0));
         Check.due("margin by 500", 500, x.rings(2));
         Check.due("before", 500, x.period(500));
+    }
+
+    /** "its TURNS are numbered from 0"; "the PLAN of its TURN k is OFFSET and k * PERIOD together" */
+    private static void planOfEachTurn() {
+        for (int offset : new int[] {0, 1, 998, 999}) {
+            for (int period : new int[] {1, 2, 60, 499, 500}) {
+                MaxplusJunction x = Nets.of(offset);
+                x.period(period);
+                x.horizon(12);
+                for (int turn = 0; turn < 12; turn++) {
+                    Check.due("plan of turn " + turn, offset + turn * period, x.at(0, turn, 0));
+                    Check.due("it begins then", offset + turn * period, x.at(0, turn, 1));
+                }
+            }
+        }
     }
 
     /** "DEPARTURES: at most 14, numbered from 0"; "IllegalStateException if there are 14" */

@@ -347,8 +347,9 @@ public final class NetTest {
 
     /** Promise 10: more lines, followed by a row of the test's own. */
     private static void layMoreLines() {
-        for (int seed = 0; seed < 100; seed += 3) {
-            int lines = 1 + seed % 4;
+        for (int each = 0; each < 400; each++) {
+            int seed = each / 4;
+            int lines = 1 + each % 4;
             MaxplusJunction x = new MaxplusJunction();
             int arcs = x.lay(lines, seed);
             int[] row = {seed};

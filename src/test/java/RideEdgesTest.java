@@ -1,4 +1,7 @@
-/** The edges that the document names of those who ride, lines and crews (sections 5 and 6, promises 26 to 28), a sentence each. */
+/**
+ * The edges that the document names of those who ride, lines and crews (sections 5 and 6, promises 26 to
+ * 28), a sentence each.
+ */
 public final class RideEdgesTest {
     public static void main(String[] args) {
         whereItBegins();

@@ -3,6 +3,7 @@ public final class RingEdgesTest {
     private static final Object[] NOTHING = {};
 
     public static void main(String[] args) {
+        setsOfNumbers();
         withoutRings();
         ringsOfOneArc();
         shortened();
@@ -23,6 +24,7 @@ public final class RingEdgesTest {
         healingWithoutAWay();
         healingOnlyIfItHolds();
         healingByTheLongestWay();
+        moreThanHealingReaches();
         feelsIfHealingIsLess();
         feelsLeastAndGreatestDelay();
         feelsNothingIfItDoesNotHold();
@@ -40,6 +42,27 @@ public final class RingEdgesTest {
     private static void ring(MaxplusJunction x, int first, int time, int shift, int timeBack, int shiftBack) {
         x.arc(first, first + 1, time, shift, Nets.RUN);
         x.arc(first + 1, first, timeBack, shiftBack, Nets.RUN);
+    }
+
+    /** "A set is the sum of 2^k for the numbers k in it.": none, the first one, the last one, all. */
+    private static void setsOfNumbers() {
+        MaxplusJunction x = Nets.many(14);
+        Check.due("none", 0, x.rings(5));
+        int sum = 0;
+        int power = 1;
+        for (int number = 0; number < 14; number++) {
+            Check.due("that of " + number + " alone", power, x.feels(number, 1));
+            x.arc(number, number, 9, 1, Nets.RUN);
+            sum += power;
+            Check.due("up to " + number, sum, x.rings(5));
+            power *= 2;
+        }
+        for (int number = 0; number < 13; number++) {
+            x.live(number, false);
+        }
+        Check.due("the last one", 8192, x.rings(5));
+        x.live(13, false);
+        Check.due("none any more", 0, x.rings(5));
     }
 
     /** "(0 / 1 without RINGS)" */
@@ -393,6 +416,44 @@ public final class RingEdgesTest {
         Check.due("200 and 200", 400, x.healing(0, 13));
         x.arc(7, 13, 300, 2, Nets.RUN);
         Check.due("the least one of two", 400, x.healing(0, 13));
+    }
+
+    /** "By it a delay of i by more than that reaches j sooner or later": so a DAY of 12 TURNS shows it. */
+    private static void moreThanHealingReaches() {
+        for (int seed = 0; seed < 100; seed += 7) {
+            int departures = 0;
+            while (!Answers.of(madeOf(seed), "healing", 0, departures).endsWith("Exception")) {
+                departures++;
+            }
+            for (int from = 0; from < departures; from++) {
+                MaxplusJunction x = madeOf(seed);
+                for (int to = 0; to < departures; to++) {
+                    dueReached("seed " + seed + ", " + from + " to " + to, x, from, to);
+                }
+            }
+        }
+    }
+
+    private static MaxplusJunction madeOf(int seed) {
+        MaxplusJunction x = new MaxplusJunction();
+        x.lay(4, seed);
+        x.period(80 + seed);
+        x.make();
+        x.horizon(12);
+        return x;
+    }
+
+    private static void dueReached(String what, MaxplusJunction x, int from, int to) {
+        int healing = x.healing(from, to);
+        if (healing == Check.NONE || healing >= 500) {
+            x.delay(from, 0, 500);
+            Check.due(what + ", by 500", 0, x.ofDeparture(to, 7));
+            return;
+        }
+        x.delay(from, 0, healing);
+        Check.due(what + ", by as much", 0, from == to ? 0 : x.ofDeparture(to, 7));
+        x.delay(from, 0, healing + 1);
+        Check.due(what + ", by more", true, x.ofDeparture(to, 7) > 0);
     }
 
     /** "those to which there is HEALING, and it is less" */

@@ -11,17 +11,9 @@ public final class TravelTest {
         Check.end("TravelTest");
     }
 
-    private static MaxplusJunction netOf(int... offsets) {
-        MaxplusJunction x = new MaxplusJunction();
-        for (int offset : offsets) {
-            x.departure(0, offset, 1);
-        }
-        return x;
-    }
-
     /** Promise 26. */
     private static void ride() {
-        MaxplusJunction x = netOf(0, 20, 40);
+        MaxplusJunction x = Nets.of(0, 20, 40);
         x.arc(0, 1, 10, 0, 0);
         x.arc(1, 2, 10, 2, 2);
         x.horizon(4);
@@ -42,7 +34,7 @@ public final class TravelTest {
 
     /** Promise 26: a broken connection is missed by one turn at most. */
     private static void rideByBroken() {
-        MaxplusJunction x = netOf(0, 15);
+        MaxplusJunction x = Nets.of(0, 15);
         x.arc(0, 1, 10, 0, 2);
         x.live(0, false);
         x.horizon(3);
@@ -69,7 +61,7 @@ public final class TravelTest {
     /** Promise 26: only runs and connections are ridden, and a broken run is none. */
     private static void rideKinds() {
         for (int kind = 0; kind < 4; kind++) {
-            MaxplusJunction x = netOf(0, 15);
+            MaxplusJunction x = Nets.of(0, 15);
             x.arc(0, 1, 10, 0, kind);
             Check.due("live, kind " + kind, kind % 2 == 0 ? 15 : Check.NONE, x.ride(0, 0, 1));
             x.live(0, false);
@@ -79,7 +71,7 @@ public final class TravelTest {
 
     /** Promise 26: the least REAL of the turns that one can come to, which need not be the first one. */
     private static void rideLeast() {
-        MaxplusJunction x = netOf(0, 20);
+        MaxplusJunction x = Nets.of(0, 20);
         x.arc(0, 1, 10, 0, 0);
         x.arc(0, 0, 10, 1, 0);
         x.delay(1, 0, 500);
@@ -116,7 +108,7 @@ public final class TravelTest {
 
     /** Promise 28. */
     private static void crews() {
-        MaxplusJunction x = netOf(0, 30);
+        MaxplusJunction x = Nets.of(0, 30);
         Check.due("no runs", 0, x.crews(0));
         x.arc(0, 1, 25, 0, 0);
         Check.due("one run, six turns, none comes back", 6, x.crews(0));
@@ -138,7 +130,7 @@ public final class TravelTest {
 
     /** Promise 28: several runs of one departure, and turns that are late. */
     private static void crewsOfMany() {
-        MaxplusJunction x = netOf(0, 10, 20);
+        MaxplusJunction x = Nets.of(0, 10, 20);
         x.horizon(2);
         x.arc(0, 1, 10, 0, 0);
         x.arc(1, 2, 10, 0, 0);
@@ -150,7 +142,7 @@ public final class TravelTest {
         Check.due("one goes round", 4, x.crews(0));
         x.delay(2, 0, 80);
         Check.due("with a rest", 10 - 2 - 2, x.crews(10));
-        MaxplusJunction y = netOf(10, 20);
+        MaxplusJunction y = Nets.of(10, 20);
         y.horizon(2);
         y.arc(0, 1, 10, 2, 0);
         y.arc(1, 0, 5, 2, 0);

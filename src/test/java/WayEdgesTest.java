@@ -73,7 +73,7 @@ public final class WayEdgesTest {
         Check.due("last of turn 30", 30 * 4200 + 3900, x.free(13, 30));
     }
 
-    /** "the greatest of 0 and of FREE .. and TIME together, of all LIVE ARCS to it" */
+    /** "the greatest of 0 and FREE of the TURN k - SHIFT .. and TIME together, of all LIVE ARCS to it" */
     private static void freeTakesTheGreatest() {
         MaxplusJunction x = Nets.many(4);
         x.arc(0, 3, 20, 0, Nets.RUN);

@@ -132,7 +132,7 @@ public final class WouldBeEdgesTest {
         Check.due("the last turn of the last one", 500 - 13 - 13 * 11, x.wave(13, 11, 500));
     }
 
-    /** "by which LATE of all TURNS together would be more": what heals is not more. */
+    /** "by how much LATE of all TURNS together would be more": what heals is not more. */
     private static void waveHiddenAndHealed() {
         MaxplusJunction x = Nets.of(0, 15);
         x.arc(0, 1, 10, 0, Nets.RUN);

@@ -14,17 +14,9 @@ public final class WouldBeTest {
         Check.end("WouldBeTest");
     }
 
-    private static MaxplusJunction netOf(int... offsets) {
-        MaxplusJunction x = new MaxplusJunction();
-        for (int offset : offsets) {
-            x.departure(0, offset, 1);
-        }
-        return x;
-    }
-
     /** Promise 29: all that can be chosen at once. */
     private static void best() {
-        MaxplusJunction x = netOf(0, 0, 0, 0, 0, 0, 0, 0);
+        MaxplusJunction x = Nets.of(0, 0, 0, 0, 0, 0, 0, 0);
         Check.due("without departures cost 0", 0, new MaxplusJunction().best(0));
         for (int number = 1; number < 5; number++) {
             x.arc(0, number, 100, 0, 2);
@@ -80,7 +72,7 @@ public final class WouldBeTest {
 
     /** Promise 31. */
     private static void wave() {
-        MaxplusJunction x = netOf(0, 10);
+        MaxplusJunction x = Nets.of(0, 10);
         x.arc(0, 1, 10, 0, 0);
         x.horizon(2);
         Check.due("two are late", 40, x.wave(0, 0, 20));
@@ -121,7 +113,7 @@ public final class WouldBeTest {
         Check.due("offset as it was", 60, x.ofDeparture(1, 1));
         Check.refused("period 501", Check.ARGUMENT, x, () -> x.wouldMake(501));
         Check.refused("period 0", Check.ARGUMENT, x, () -> x.wouldMake(0));
-        MaxplusJunction y = netOf(0, 0, 0, 0, 0);
+        MaxplusJunction y = Nets.of(0, 0, 0, 0, 0);
         for (int number = 0; number < 4; number++) {
             y.arc(number, number + 1, 300, 1, 0);
         }
@@ -131,7 +123,7 @@ public final class WouldBeTest {
 
     /** Promise 33. */
     private static void heals() {
-        MaxplusJunction x = netOf(0, 10, 20, 20);
+        MaxplusJunction x = Nets.of(0, 10, 20, 20);
         Check.due("no arcs", Check.NONE, x.heals(100));
         x.arc(0, 1, 10, 0, 0);
         x.arc(1, 2, 10, 0, 0);
@@ -154,7 +146,7 @@ public final class WouldBeTest {
 
     /** Promise 33: the smallest number of several; TIME is 0 at least, and less than 1. */
     private static void healsTies() {
-        MaxplusJunction x = netOf(0, 10, 10, 0, 0);
+        MaxplusJunction x = Nets.of(0, 10, 10, 0, 0);
         x.arc(0, 2, 20, 0, 0);
         x.arc(0, 1, 20, 0, 0);
         x.horizon(1);
