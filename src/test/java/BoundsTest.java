@@ -32,7 +32,7 @@ public final class BoundsTest {
         Check.end("BoundsTest");
     }
 
-    /** ARCS of one KIND and a SHIFT of 1, round and round, and some LATENESS. */
+    /** ARCS of one KIND and a SHIFT of 1, round and round, some LATENESS, and what that KIND can have. */
     private static MaxplusJunction netOf(int[] size, int kind) {
         MaxplusJunction x = new MaxplusJunction();
         x.horizon(size[2]);
@@ -41,6 +41,12 @@ public final class BoundsTest {
         }
         for (int number = 0; number < size[1]; number++) {
             x.arc(number % size[0], (number + 1) % size[0], 40 + number, 1, kind);
+        }
+        if (kind == CONNECTION) {
+            x.riders(size[1] - 1, 5, true);
+        } else if (kind == TRACK && size[1] > 5) {
+            x.pair(3, 4);
+            x.live(4, true);
         }
         x.storm(19, 60);
         return x;
@@ -86,6 +92,8 @@ public final class BoundsTest {
     /** Promises 2 to 6 and 10: what the document bounds by numbers. */
     private static void numbersThatAreTold() {
         Answers.Maker net = () -> netOf(MIDDLE, CONNECTION);
+        bounds(net, "riders", 1, 0, 99, Check.ARGUMENT, 8, 1, true);
+        net = () -> netOf(MIDDLE, TRACK);
         bounds(net, "period", 0, 1, 500, Check.ARGUMENT, 7);
         bounds(net, "departure", 0, 0, 5, Check.ARGUMENT, 1, 1, 1);
         bounds(net, "departure", 1, 0, 999, Check.ARGUMENT, 1, 1, 1);
@@ -94,14 +102,13 @@ public final class BoundsTest {
         bounds(net, "arc", 2, 1, 300, Check.ARGUMENT, 1, 4, 7, 0, RUN);
         bounds(net, "arc", 3, 0, 2, Check.ARGUMENT, 1, 4, 7, 0, RUN);
         bounds(net, "arc", 4, 0, 3, Check.ARGUMENT, 1, 4, 7, 0, RUN);
-        bounds(net, "riders", 1, 0, 99, Check.ARGUMENT, 8, 1, true);
         bounds(MaxplusJunction::new, "lay", 0, 1, 4, Check.ARGUMENT, 1, 1);
         bounds(MaxplusJunction::new, "lay", 1, 0, 99, Check.ARGUMENT, 4, 1);
     }
 
     /** Promises 11, 12, 14 and 23 to 28. */
     private static void numbersOfADay() {
-        Answers.Maker net = () -> netOf(MIDDLE, RUN);
+        Answers.Maker net = () -> netOf(MIDDLE, TRACK);
         bounds(net, "horizon", 0, 1, 12, Check.ARGUMENT, 7);
         bounds(net, "delay", 2, 0, 500, Check.ARGUMENT, 4, 5, 1);
         bounds(net, "storm", 0, 0, 99, Check.ARGUMENT, 1, 1);
@@ -126,7 +133,7 @@ public final class BoundsTest {
 
     /** Promises 29 and 31 to 33. */
     private static void numbersOfWhatWouldBe() {
-        Answers.Maker net = () -> netOf(MIDDLE, CONNECTION);
+        Answers.Maker net = () -> netOf(MIDDLE, TRACK);
         bounds(net, "best", 0, 0, 2, Check.ARGUMENT, 1);
         bounds(net, "wave", 2, 0, 500, Check.ARGUMENT, 4, 5, 1);
         bounds(net, "wouldMake", 0, 1, 500, Check.ARGUMENT, 1);
@@ -135,7 +142,7 @@ public final class BoundsTest {
 
     /** Each method that is told a DEPARTURE takes 0 up to the last one. */
     private static void departuresOf(int[] size) {
-        Answers.Maker net = () -> netOf(size, RUN);
+        Answers.Maker net = () -> netOf(size, TRACK);
         int last = size[0] - 1;
         bounds(net, "move", 0, 0, last, Check.INDEX, 0, 1);
         bounds(net, "delay", 0, 0, last, Check.INDEX, 0, 0, 1);
@@ -165,6 +172,7 @@ public final class BoundsTest {
         Answers.Maker net = () -> netOf(size, CONNECTION);
         int last = size[1] - 1;
         bounds(net, "riders", 0, 0, last, Check.INDEX, 0, 1, true);
+        net = () -> netOf(size, TRACK);
         bounds(net, "live", 0, 0, last, Check.INDEX, 0, false);
         bounds(net, "live", 0, 0, last, Check.INDEX, 0, true);
         bounds(net, "ofArc", 0, 0, last, Check.INDEX, 0, 1);
@@ -180,7 +188,7 @@ public final class BoundsTest {
 
     /** Each method that is told a TURN of the DAY takes 0 to H - 1. */
     private static void turnsOf(int[] size) {
-        Answers.Maker net = () -> netOf(size, RUN);
+        Answers.Maker net = () -> netOf(size, TRACK);
         int last = size[2] - 1;
         bounds(net, "delay", 1, 0, last, Check.INDEX, 0, 0, 1);
         bounds(net, "at", 1, 0, last, Check.INDEX, 0, 0, 1);

@@ -21,7 +21,7 @@ public final class FirstNamedTest {
         Check.end("FirstNamedTest");
     }
 
-    /** Two DEPARTURES, ARCS of each KIND between them, all with a SHIFT of 1 but the first one. */
+    /** Two DEPARTURES, ARCS of each KIND between them, all with a SHIFT of 1 but the first one; a PAIR. */
     private static MaxplusJunction small() {
         MaxplusJunction x = new MaxplusJunction();
         x.departure(0, 3, 1);
@@ -30,19 +30,24 @@ public final class FirstNamedTest {
         for (int kind = 1; kind < 4; kind++) {
             x.arc(0, 1, 5, 1, kind);
         }
+        x.arc(0, 1, 6, 1, TRACK);
+        x.pair(3, 4);
+        x.live(4, true);
         x.delay(0, 2, 44);
         return x;
     }
 
-    /** As many DEPARTURES and ARCS as there can be. */
+    /** As many DEPARTURES and ARCS as there can be, of one KIND but the last two, which are a PAIR. */
     private static MaxplusJunction full(int kind) {
         MaxplusJunction x = new MaxplusJunction();
         for (int number = 0; number < 14; number++) {
             x.departure(number % 6, number, 1);
         }
         for (int number = 0; number < 36; number++) {
-            x.arc(number % 14, (number + 1) % 14, 5, 1, kind);
+            x.arc(number % 14, (number + 1) % 14, 5, 1, number < 34 ? kind : TRACK);
         }
+        x.pair(34, 35);
+        x.live(35, true);
         return x;
     }
 
@@ -113,9 +118,9 @@ public final class FirstNamedTest {
     /** Promise 6: no such ARC, then RIDERS, then the KIND or a fifth one. */
     private static void riders() {
         Answers.Maker net = FirstNamedTest::small;
-        first(net, Check.INDEX, "riders", 4, 100, true);
+        first(net, Check.INDEX, "riders", 5, 100, true);
         first(net, Check.INDEX, "riders", -1, -1, false);
-        for (int arc : new int[] {0, 1, 3}) {
+        for (int arc : new int[] {0, 1, 3, 4}) {
             first(net, Check.STATE, "riders", arc, 0, false);
             first(net, Check.STATE, "riders", arc, 99, true);
             first(net, Check.ARGUMENT, "riders", arc, 100, true);
@@ -138,17 +143,20 @@ public final class FirstNamedTest {
     /** Promise 7: no such ARC, then that both are the same, then what they are, or that there are 3 PAIRS. */
     private static void pair() {
         Answers.Maker net = FirstNamedTest::small;
-        first(net, Check.INDEX, "pair", 4, 4);
+        first(net, Check.INDEX, "pair", 5, 5);
         first(net, Check.INDEX, "pair", -1, -1);
-        first(net, Check.INDEX, "pair", 4, 0);
-        first(net, Check.INDEX, "pair", 0, 4);
+        first(net, Check.INDEX, "pair", 5, 0);
+        first(net, Check.INDEX, "pair", 0, 5);
+        first(net, Check.INDEX, "pair", 3, 5);
+        first(net, Check.INDEX, "pair", -1, 4);
         first(net, Check.ARGUMENT, "pair", 0, 0);
         first(net, Check.ARGUMENT, "pair", 2, 2);
+        first(net, Check.ARGUMENT, "pair", 3, 3);
+        first(net, Check.STATE, "pair", 3, 4);
         Answers.Maker paired = () -> {
             MaxplusJunction x = full(TRACK);
-            for (int arc = 0; arc < 6; arc += 2) {
-                x.pair(arc, arc + 1);
-            }
+            x.pair(0, 1);
+            x.pair(2, 3);
             return x;
         };
         first(paired, Check.STATE, "pair", 6, 7);
@@ -185,7 +193,7 @@ public final class FirstNamedTest {
                 first(net, Check.INDEX, "power", 0, none, number);
             }
         }
-        for (int none : new int[] {-1, 4}) {
+        for (int none : new int[] {-1, 5}) {
             for (int what : new int[] {-1, 10}) {
                 first(net, Check.INDEX, "ofArc", none, what);
             }

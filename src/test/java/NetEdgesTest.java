@@ -318,6 +318,10 @@ public final class NetEdgesTest {
             x.live(0, false);
             x.arc(13, 0, 9, 0, Nets.CONNECTION);
             x.riders(13, 9, true);
+            x.arc(0, 5, 9, 1, Nets.TRACK);
+            x.arc(0, 5, 9, 1, Nets.TRACK);
+            x.pair(14, 15);
+            x.live(15, true);
             return x;
         };
         Check.refused("the last arc of a ring", Check.STATE, net, x -> x.live(0, true));

@@ -103,6 +103,8 @@ public final class PairEdgesTest {
             x.pair(0, 9);
             x.pair(8, 1);
             x.pair(2, 3);
+            x.live(9, true);
+            x.live(3, true);
             return x;
         };
         MaxplusJunction x = tracks(10);
@@ -115,7 +117,9 @@ public final class PairEdgesTest {
         for (int arc = 0; arc < 10; arc++) {
             Check.due("the other one of " + arc, others[arc], net.make().ofArc(arc, 9));
         }
-        dueLive("of three pairs", net.make(), 1, 0, 1, 0, 1, 1, 1, 1, 1, 0);
+        dueLive("of three pairs", x, 1, 0, 1, 0, 1, 1, 1, 1, 1, 0);
+        dueLive("two of them swapped", net.make(), 0, 0, 0, 1, 1, 1, 1, 1, 1, 1);
+        Check.due("their numbers", 16 + 64, net.make().best(1));
     }
 
     /** "no ARC is in two"; "or is in a PAIR" */
