@@ -177,6 +177,7 @@ public final class MaxplusJunction {
         if (net.departures > 0) {
             throw new IllegalStateException("there is a departure");
         }
+        // Four lines of three DEPARTURES and ARCS and three CONNECTIONS at most: there is room for all of it.
         Row row = new Row(seed);
         int[] first = new int[lines];
         int[] last = new int[lines];
@@ -953,7 +954,7 @@ public final class MaxplusJunction {
         final int[][] at = new int[MOST_FREE_TURN + 1][MOST_DEPARTURES];
 
         void fill(int turns, int number) {
-            for (int turn = 0; turn < turns; turn++) {
+            for (int turn = 0; turn < turns && turn < at.length; turn++) {
                 Arrays.fill(at[turn], number);
             }
         }
@@ -997,6 +998,7 @@ public final class MaxplusJunction {
     /** LEAST PERIOD and the CRITICAL departures. */
     static final class Rings {
         int above = 0;
+        // What is divided by: never below 1, as no RING has fewer SHIFTS.
         int under = 1;
         int critical = 0;
         private int version = NONE;

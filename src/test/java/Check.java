@@ -4,8 +4,10 @@ final class Check {
     static final String INDEX = "IndexOutOfBoundsException";
     static final String ARGUMENT = "IllegalArgumentException";
     static final String STATE = "IllegalStateException";
+    private static final long MOST_SECONDS = 300;
     private static int wrong = 0;
     private static int asked = 0;
+    private static boolean isWatched = false;
 
     interface Call {
         Object run();
@@ -14,7 +16,27 @@ final class Check {
     private Check() {
     }
 
+    /** No call may fail to end; each test takes some seconds, so one that takes minutes has failed. */
+    static void watch() {
+        if (isWatched) {
+            return;
+        }
+        isWatched = true;
+        Thread watch = new Thread(() -> {
+            try {
+                Thread.sleep(1000 * MOST_SECONDS);
+            } catch (InterruptedException e) {
+                return;
+            }
+            System.out.println("no end after " + MOST_SECONDS + " seconds");
+            Runtime.getRuntime().halt(1);
+        });
+        watch.setDaemon(true);
+        watch.start();
+    }
+
     static void due(String what, Object want, Object got) {
+        watch();
         asked++;
         if (!want.equals(got)) {
             wrong++;

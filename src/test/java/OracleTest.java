@@ -39,6 +39,9 @@ public final class OracleTest {
     }
 
     public static void main(String[] args) {
+        if (args.length == 0) {
+            Check.watch();
+        }
         int runs = args.length > 0 ? Integer.parseInt(args[0]) : 120;
         long first = args.length > 1 ? Long.parseLong(args[1]) : 1;
         List<Method> methods = new ArrayList<>(Arrays.asList(Oracle.class.getDeclaredMethods()));

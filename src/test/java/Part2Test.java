@@ -216,6 +216,14 @@ public final class Part2Test {
         x.live(0, false);
         Check.due("without any", -1, x.healing(0, 2));
         Check.due("to itself, without any", 0, x.healing(0, 0));
+        MaxplusJunction y = Nets.chain(14, 7);
+        for (int departure = 1; departure < 14; departure++) {
+            y.move(departure, 10 * departure);
+        }
+        y.arc(0, 13, 90, 0, Nets.TRACK);
+        Check.due("3 by each of 13, not 40 by one", 39, y.healing(0, 13));
+        y.arc(1, 3, 15, 0, Nets.STOCK);
+        Check.due("5 by one and 3 by each of 11", 38, y.healing(0, 13));
     }
 
     /** "It is asked only if the timetable HOLDS (otherwise NONE)." */

@@ -63,6 +63,14 @@ public final class Part6Test {
         }
         x.live(1, false);
         Check.due("one is broken", 18, x.crews(0));
+        MaxplusJunction y = Nets.of(0, 30, 60);
+        y.arc(0, 1, 20, 0, Nets.RUN);
+        y.arc(1, 2, 20, 0, Nets.RUN);
+        Check.due("six go on", 6, y.crews(0));
+        y.live(0, false);
+        Check.due("none goes on from a broken one", 6, y.crews(0));
+        y.arc(0, 1, 20, 0, Nets.RUN);
+        Check.due("but from one that is live", 6, y.crews(0));
     }
 
     /**
